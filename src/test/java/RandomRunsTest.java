@@ -6,12 +6,17 @@ final class RandomRunsTest {
     private static final int CALLS = 512;
     private static final String[] LOOKS = {"register", "place", "buffered", "storeAddress", "storeValue", "line",
         "cached", "request", "memory", "word", "events", "event", "eventValue"};
-    private static final int[] ODD = {-1, 3, 4, 8, 16, Integer.MIN_VALUE, Integer.MAX_VALUE};
+    /** Loads, stores and swaps come often, and a program seldom halts. */
+    private static final int[] OPERATIONS = {0, 1, 3, 0, 1, 3, 0, 1, 3, 0, 1, 3, 0, 1, 3, 0, 1, 3, 0, 1, 3,
+        2, 2, 4, 4, 4, 5, 5, 5, 5, 5, 5, 5, 6, 6, 7};
+    private static final int[] ODD = {-1, 2, 3, 4, 8, 16, Integer.MIN_VALUE, Integer.MAX_VALUE};
 
     private final Random random;
     private final Model model;
     private final BufferedCores machine;
     private final int words;
+    private final int looks;
+    private int core = 0;
     private int events = 0;
 
     private RandomRunsTest(long seed) {
@@ -20,6 +25,7 @@ final class RandomRunsTest {
         model = new Model(stores);
         machine = new BufferedCores(stores);
         words = 1 + random.nextInt(8);
+        looks = random.nextBoolean() ? 40 : 10;
     }
 
     public static void main(String[] args) {
@@ -32,46 +38,65 @@ final class RandomRunsTest {
     }
 
     private boolean agrees(int seed) {
-        for (int i = 0; i < CALLS; i++) {
-            String name = i < 40 ? "code" : nextName();
-            int[] n = numbers(name);
-            String want = answer(() -> model.call(name, n[0], n[1], n[2], n[3]));
-            String got = answer(() -> machineCall(name, n[0], n[1], n[2], n[3]));
-            events = name.equals("events") ? model.call(name, 0, 0, 0, 0) : events;
-            if (!got.equals(want)) {
-                String call = name + "(" + n[0] + ", " + n[1] + ", " + n[2] + ", " + n[3] + ")";
-                Check.due("seed " + seed + ", call " + i + ": " + call, got, want);
-                return false;
-            }
+        boolean same = true;
+        for (int i = 0; same && i < CALLS; i++) {
+            core = random.nextInt(3);
+            same = i >= 30 && i < 36 ? loopsBack(seed, i) : agrees(seed, i, i < 30 ? "code" : nextName());
         }
-        return true;
+        return same;
     }
 
+    private boolean agrees(int seed, int i, String name) {
+        return agrees(seed, i, name, numbers(name));
+    }
+
+    /** So that the programs do not end soon: each core sets a register and branches on it to its beginning. */
+    private boolean loopsBack(int seed, int i) {
+        int core = i % 3;
+        return agrees(seed, i, "code", i < 33 ? new int[] {core, 5, 2, 1} : new int[] {core, 6, 2, 0});
+    }
+
+    private boolean agrees(int seed, int i, String name, int[] n) {
+        String want = answer(() -> model.call(name, n[0], n[1], n[2], n[3]));
+        String got = answer(() -> machineCall(name, n[0], n[1], n[2], n[3]));
+        events = model.call("events", 0, 0, 0, 0);
+        if (!got.equals(want)) {
+            String call = name + "(" + n[0] + ", " + n[1] + ", " + n[2] + ", " + n[3] + ")";
+            Check.due("seed " + seed + ", call " + i + ": " + call, got, want);
+        }
+        return got.equals(want);
+    }
+
+    /** Half of the runs look seldom and serve the bus soon: they come far enough to fill the log. */
     private String nextName() {
-        int draw = random.nextInt(100);
-        if (draw < 25) {
+        if (random.nextInt(100) < looks) {
+            return LOOKS[random.nextInt(LOOKS.length)];
+        }
+        int asked = model.call("request", core, 0, 0, 0);
+        if (asked != 0 && random.nextInt(100) > 2 * looks) {
+            return (asked & 4) == 0 ? "grant" : "fill";
+        }
+        int draw = random.nextInt(60);
+        if (draw < 26) {
             return "step";
         }
-        if (draw < 35) {
+        if (draw < 36) {
             return "drain";
         }
-        if (draw < 46) {
+        if (draw < 47) {
             return "grant";
         }
-        if (draw < 54) {
+        if (draw < 56) {
             return "fill";
         }
-        if (draw < 57) {
-            return "poke";
-        }
-        return draw < 58 ? "code" : LOOKS[random.nextInt(LOOKS.length)];
+        return draw < 59 ? "poke" : "code";
     }
 
     private int[] numbers(String name) {
-        int[] n = {random.nextInt(3), random.nextInt(4), random.nextInt(4), random.nextInt(4)};
+        int[] n = {core, random.nextInt(4), random.nextInt(4), random.nextInt(4)};
         switch (name) {
             case "code":
-                n[1] = random.nextInt(28) == 0 ? 7 : random.nextInt(7);
+                n[1] = OPERATIONS[random.nextInt(OPERATIONS.length)];
                 n[3] = n[1] == 5 ? random.nextInt(words) : n[1] == 6 ? random.nextInt(16) : n[3];
                 break;
             case "poke":
@@ -87,7 +112,7 @@ final class RandomRunsTest {
                 break;
             case "event":
             case "eventValue":
-                n[0] = events - 42 + random.nextInt(50);
+                n[0] = random.nextInt(4) == 0 ? events - 42 + random.nextInt(4) : events - 42 + random.nextInt(50);
                 break;
             default:
                 break;

@@ -16,7 +16,7 @@ final class Rig {
         return m.step(core);
     }
 
-    /** The core asks for reading x and stops; three instructions, register 0 has x. */
+    /** The core asks for reading x and stops; two instructions, register 0 has x. */
     static void askToRead(BufferedCores m, int core, int x) {
         run(m, core, SET, 0, x);
         run(m, core, LOAD, 1, 0);

@@ -9,6 +9,7 @@ final class StepTest {
         halt();
         addressBits();
         loadFromBuffer();
+        loadFromOnlyStore();
         loadFromLine();
         loadOfOwnAddress();
         loadAsks();
@@ -107,6 +108,20 @@ final class StepTest {
         Check.due("no request", m.request(0), 0);
         Check.due("event", m.event(1), Rig.event(0, 0, 2));
         Check.due("event's value", m.eventValue(1), 20);
+    }
+
+    private static void loadFromOnlyStore() {
+        BufferedCores m = new BufferedCores(4);
+        Rig.buffer(m, 1, 6, 60);
+        Check.due("LOAD without a line", Rig.run(m, 1, Rig.LOAD, 2, 0), DONE);
+        Check.due("the only store", m.register(1, 2), 60);
+        Check.due("no request", m.request(1), 0);
+        Check.due("the store stays", m.buffered(1), 1);
+        BufferedCores cached = new BufferedCores(4);
+        Rig.write(cached, 1, 6, 50);
+        Rig.buffer(cached, 1, 6, 60);
+        Rig.run(cached, 1, Rig.LOAD, 2, 0);
+        Check.due("the only store, not the line", cached.register(1, 2), 60);
     }
 
     private static void loadFromLine() {
