@@ -1,14 +1,22 @@
+import java.util.function.IntSupplier;
+
 /** Counts and prints the answers that are not as due. */
 final class Check {
     private static int wrong = 0;
+    private static String sentence = "";
 
     private Check() {
+    }
+
+    /** The document's words that the answers from here on are held to. */
+    static void sentence(String words) {
+        sentence = "[" + words + "] ";
     }
 
     static void due(String what, Object got, Object want) {
         if (!want.equals(got)) {
             wrong++;
-            System.out.println(what + " answered " + got + ", due is " + want);
+            System.out.println(sentence + what + " answered " + got + ", due is " + want);
         }
     }
 
@@ -18,6 +26,20 @@ final class Check {
 
     static void fine(String what, Runnable call) {
         due(what, thrownBy(call), "nothing");
+    }
+
+    /** The call answers so, and nothing that the object shows is another after it. */
+    static void idle(String what, BufferedCores m, IntSupplier call, int want) {
+        String before = Rig.view(m);
+        due(what, call.getAsInt(), want);
+        due("the state behind " + what, Rig.view(m), before);
+    }
+
+    /** The call throws so, and nothing that the object shows is another after it. */
+    static void refused(String what, BufferedCores m, Class<? extends RuntimeException> want, Runnable call) {
+        String before = Rig.view(m);
+        throwing(what, want, call);
+        due("the state behind " + what, Rig.view(m), before);
     }
 
     private static String thrownBy(Runnable call) {

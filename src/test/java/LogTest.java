@@ -80,11 +80,7 @@ final class LogTest {
         m.step(core);
         m.step(core);
         m.step(core);
-        if (m.drain(core) == BufferedCores.STOPPED) {
-            m.grant(core);
-            m.fill(core);
-            m.drain(core);
-        }
+        Rig.drainThrough(m, core);
     }
 
     private static void written(BufferedCores m, int i) {

@@ -10,9 +10,34 @@ final class Rig {
     private Rig() {
     }
 
+    /** Numbers that are not among 0 .. last: next to them, and far off. */
+    static int[] outside(int last) {
+        return new int[] {-1, -2, last + 1, last + 2, 256, 65536, Integer.MIN_VALUE, Integer.MAX_VALUE};
+    }
+
+    /** Grants and fills the core's request. */
+    static void serve(BufferedCores m, int core) {
+        m.grant(core);
+        m.fill(core);
+    }
+
+    /** The core's oldest store is drained, over the bus if the core does not own its address. */
+    static void drainThrough(BufferedCores m, int core) {
+        if (m.drain(core) == BufferedCores.STOPPED) {
+            serve(m, core);
+            m.drain(core);
+        }
+    }
+
+    /** The core reads another word of the same line: it has x no more. */
+    static void drop(BufferedCores m, int core, int x) {
+        read(m, core, (x + 2) % 8);
+    }
+
     /** Appends an instruction to a core that is at its program's end, and steps it once. */
     static int run(BufferedCores m, int core, int op, int a, int b) {
-        m.code(core, op, a, b);
+        int length = m.code(core, op, a, b);
+        Check.due("the place of a core that the rig runs", m.place(core), length - 1);
         return m.step(core);
     }
 
@@ -25,8 +50,7 @@ final class Rig {
     /** The core loads x over the bus into register 1. */
     static void read(BufferedCores m, int core, int x) {
         askToRead(m, core, x);
-        m.grant(core);
-        m.fill(core);
+        serve(m, core);
         m.step(core);
     }
 
@@ -46,8 +70,7 @@ final class Rig {
     /** The core writes v to x: its line is M then. */
     static void write(BufferedCores m, int core, int x, int v) {
         askToOwn(m, core, x, v);
-        m.grant(core);
-        m.fill(core);
+        serve(m, core);
         m.drain(core);
     }
 
@@ -63,7 +86,7 @@ final class Rig {
         return kind + 4 * core + 16 * x;
     }
 
-    /** All that an object shows; some 200 calls. */
+    /** All that an object shows; some 70 calls, and two for each event that it keeps. */
     static String view(BufferedCores m) {
         StringBuilder out = new StringBuilder();
         for (int core = 0; core < 3; core++) {
