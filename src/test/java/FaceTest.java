@@ -16,10 +16,11 @@ final class FaceTest {
     private static final String STATE = "IllegalStateException";
     private static final String NONE = "NoSuchElementException";
 
-    public static void main(String[] args) {
+    public static void main(String[] args) throws Exception {
         constants();
         members();
         names();
+        insides();
         Check.end();
     }
 
@@ -31,42 +32,61 @@ final class FaceTest {
         Check.due("BUSY", BufferedCores.BUSY, 4);
     }
 
-    private static void members() {
+    private static void members() throws Exception {
         Set<String> due = new TreeSet<>(Arrays.asList(
-            "int STOPPED", "int DONE", "int ENDED", "int NOTHING", "int BUSY", "new(int)",
-            "int code(int, int, int, int) " + INDEX + " " + ARGUMENT + " " + STATE,
-            "void poke(int, int) " + ARGUMENT + " " + STATE,
-            "int step(int) " + INDEX, "int drain(int) " + INDEX,
-            "int grant(int) " + INDEX, "int fill(int) " + INDEX,
-            "int register(int, int) " + INDEX + " " + ARGUMENT,
-            "int place(int) " + INDEX, "int buffered(int) " + INDEX,
-            "int storeAddress(int, int) " + INDEX + " " + NONE,
-            "int storeValue(int, int) " + INDEX + " " + NONE,
-            "int line(int, int) " + INDEX + " " + ARGUMENT,
-            "int cached(int, int) " + INDEX + " " + ARGUMENT + " " + NONE,
-            "int request(int) " + INDEX,
-            "int memory(int) " + ARGUMENT, "int word(int) " + ARGUMENT,
-            "int events()", "int event(int) " + NONE, "int eventValue(int) " + NONE));
-        Set<String> got = new TreeSet<>();
+            "public static final int STOPPED = 0", "public static final int DONE = 1",
+            "public static final int ENDED = 2", "public static final int NOTHING = 3",
+            "public static final int BUSY = 4",
+            "public BufferedCores(int)",
+            "public int code(int, int, int, int) throws " + INDEX + ", " + ARGUMENT + ", " + STATE,
+            "public void poke(int, int) throws " + ARGUMENT + ", " + STATE,
+            "public int step(int) throws " + INDEX, "public int drain(int) throws " + INDEX,
+            "public int grant(int) throws " + INDEX, "public int fill(int) throws " + INDEX,
+            "public int register(int, int) throws " + INDEX + ", " + ARGUMENT,
+            "public int place(int) throws " + INDEX, "public int buffered(int) throws " + INDEX,
+            "public int storeAddress(int, int) throws " + INDEX + ", " + NONE,
+            "public int storeValue(int, int) throws " + INDEX + ", " + NONE,
+            "public int line(int, int) throws " + INDEX + ", " + ARGUMENT,
+            "public int cached(int, int) throws " + INDEX + ", " + ARGUMENT + ", " + NONE,
+            "public int request(int) throws " + INDEX,
+            "public int memory(int) throws " + ARGUMENT, "public int word(int) throws " + ARGUMENT,
+            "public int events()", "public int event(int) throws " + NONE,
+            "public int eventValue(int) throws " + NONE));
+        Check.due("the face", face(), due);
+        int wanted = Modifier.PUBLIC | Modifier.FINAL;
+        Check.due("the class's modifiers", BufferedCores.class.getModifiers(), wanted);
+        Check.due("the class above it", BufferedCores.class.getSuperclass(), Object.class);
+        Check.due("its interfaces", BufferedCores.class.getInterfaces().length, 0);
+        Check.due("its package", BufferedCores.class.getPackageName(), "");
+    }
+
+    private static Set<String> face() throws IllegalAccessException {
+        Set<String> face = new TreeSet<>();
         for (Field f : BufferedCores.class.getDeclaredFields()) {
             if (isSeen(f)) {
-                got.add(f.getType() + " " + f.getName());
+                face.add(start(f) + f.getType() + " " + f.getName() + " = " + f.get(null));
             }
         }
         for (Constructor<?> c : BufferedCores.class.getDeclaredConstructors()) {
             if (isSeen(c)) {
-                got.add("new(" + names(c.getParameterTypes(), ", ") + ")");
+                face.add(start(c) + c.getName() + end(c.getParameterTypes(), c.getExceptionTypes()));
             }
         }
         for (Method m : BufferedCores.class.getDeclaredMethods()) {
             if (isSeen(m)) {
-                String call = m.getReturnType() + " " + m.getName() + "(" + names(m.getParameterTypes(), ", ") + ")";
-                got.add((call + " " + names(m.getExceptionTypes(), " ")).trim());
+                String call = m.getReturnType() + " " + m.getName();
+                face.add(start(m) + call + end(m.getParameterTypes(), m.getExceptionTypes()));
             }
         }
-        Check.due("the face", got, due);
-        int wanted = Modifier.PUBLIC | Modifier.FINAL;
-        Check.due("the class's modifiers", BufferedCores.class.getModifiers(), wanted);
+        return face;
+    }
+
+    private static String start(Member m) {
+        return Modifier.toString(m.getModifiers()) + " ";
+    }
+
+    private static String end(Class<?>[] parameters, Class<?>[] exceptions) {
+        return "(" + names(parameters) + ")" + (exceptions.length == 0 ? "" : " throws " + names(exceptions));
     }
 
     private static void names() {
@@ -82,9 +102,13 @@ final class FaceTest {
                     open.contains(m.getName()), false);
             }
         }
+    }
+
+    private static void insides() {
         for (Class<?> inside : BufferedCores.class.getDeclaredClasses()) {
             int modifiers = inside.getModifiers();
-            Check.due(inside.getName() + " is open", Modifier.isPublic(modifiers) || Modifier.isProtected(modifiers), false);
+            boolean open = Modifier.isPublic(modifiers) || Modifier.isProtected(modifiers);
+            Check.due(inside.getName() + " is open", open, false);
             Check.due(inside.getName() + " is static", Modifier.isStatic(modifiers), true);
         }
     }
@@ -93,7 +117,7 @@ final class FaceTest {
         return !m.isSynthetic() && !Modifier.isPrivate(m.getModifiers());
     }
 
-    private static String names(Class<?>[] types, String between) {
-        return Arrays.stream(types).map(Class::getSimpleName).collect(Collectors.joining(between));
+    private static String names(Class<?>[] types) {
+        return Arrays.stream(types).map(Class::getSimpleName).collect(Collectors.joining(", "));
     }
 }

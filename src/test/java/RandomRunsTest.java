@@ -3,7 +3,6 @@ import java.util.Random;
 /** All promises: long runs of calls, drawn with fixed seeds, answered as the model answers them. */
 final class RandomRunsTest {
     private static final int RUNS = 6000;
-    private static final int CALLS = 512;
     private static final String[] LOOKS = {"register", "place", "buffered", "storeAddress", "storeValue", "line",
         "cached", "request", "memory", "word", "events", "event", "eventValue"};
     /** Loads, stores and swaps come often, and a program seldom halts. */
@@ -12,8 +11,7 @@ final class RandomRunsTest {
     private static final int[] ODD = {-1, 2, 3, 4, 8, 16, Integer.MIN_VALUE, Integer.MAX_VALUE};
 
     private final Random random;
-    private final Model model;
-    private final BufferedCores machine;
+    private final Pair pair;
     private final int words;
     private final int looks;
     private int core = 0;
@@ -21,9 +19,7 @@ final class RandomRunsTest {
 
     private RandomRunsTest(long seed) {
         random = new Random(seed);
-        int stores = random.nextInt(8) - 1;
-        model = new Model(stores);
-        machine = new BufferedCores(stores);
+        pair = new Pair(random.nextInt(8) - 1);
         words = 1 + random.nextInt(8);
         looks = random.nextBoolean() ? 40 : 10;
     }
@@ -39,32 +35,27 @@ final class RandomRunsTest {
 
     private boolean agrees(int seed) {
         boolean same = true;
-        for (int i = 0; same && i < CALLS; i++) {
+        for (int i = 0; same && i < Pair.MOST_CALLS; i++) {
             core = random.nextInt(3);
-            same = i >= 30 && i < 36 ? loopsBack(seed, i) : agrees(seed, i, i < 30 ? "code" : nextName());
+            same = i >= 30 && i < 36 ? loopsBack(seed, i) : drawn(seed, i < 30 ? "code" : nextName());
         }
         return same;
     }
 
-    private boolean agrees(int seed, int i, String name) {
-        return agrees(seed, i, name, numbers(name));
+    private boolean drawn(int seed, String name) {
+        return agrees(seed, name, numbers(name));
     }
 
     /** So that the programs do not end soon: each core sets a register and branches on it to its beginning. */
     private boolean loopsBack(int seed, int i) {
         int core = i % 3;
-        return agrees(seed, i, "code", i < 33 ? new int[] {core, 5, 2, 1} : new int[] {core, 6, 2, 0});
+        return agrees(seed, "code", i < 33 ? new int[] {core, 5, 2, 1} : new int[] {core, 6, 2, 0});
     }
 
-    private boolean agrees(int seed, int i, String name, int[] n) {
-        String want = answer(() -> model.call(name, n[0], n[1], n[2], n[3]));
-        String got = answer(() -> machineCall(name, n[0], n[1], n[2], n[3]));
-        events = model.call("events", 0, 0, 0, 0);
-        if (!got.equals(want)) {
-            String call = name + "(" + n[0] + ", " + n[1] + ", " + n[2] + ", " + n[3] + ")";
-            Check.due("seed " + seed + ", call " + i + ": " + call, got, want);
-        }
-        return got.equals(want);
+    private boolean agrees(int seed, String name, int[] n) {
+        boolean same = pair.agrees("seed " + seed, name, n[0], n[1], n[2], n[3]);
+        events = pair.ask("events", 0);
+        return same;
     }
 
     /** Half of the runs look seldom and serve the bus soon: they come far enough to fill the log. */
@@ -72,7 +63,7 @@ final class RandomRunsTest {
         if (random.nextInt(100) < looks) {
             return LOOKS[random.nextInt(LOOKS.length)];
         }
-        int asked = model.call("request", core, 0, 0, 0);
+        int asked = pair.ask("request", core);
         if (asked != 0 && random.nextInt(100) > 2 * looks) {
             return (asked & 4) == 0 ? "grant" : "fill";
         }
@@ -121,39 +112,5 @@ final class RandomRunsTest {
             n[random.nextInt(4)] = ODD[random.nextInt(ODD.length)];
         }
         return n;
-    }
-
-    private int machineCall(String name, int p, int q, int r, int s) {
-        BufferedCores m = machine;
-        switch (name) {
-            case "code": return m.code(p, q, r, s);
-            case "poke": m.poke(p, q); return 0;
-            case "step": return m.step(p);
-            case "drain": return m.drain(p);
-            case "grant": return m.grant(p);
-            case "fill": return m.fill(p);
-            case "register": return m.register(p, q);
-            case "place": return m.place(p);
-            case "buffered": return m.buffered(p);
-            case "storeAddress": return m.storeAddress(p, q);
-            case "storeValue": return m.storeValue(p, q);
-            case "line": return m.line(p, q);
-            case "cached": return m.cached(p, q);
-            case "request": return m.request(p);
-            case "memory": return m.memory(p);
-            case "word": return m.word(p);
-            case "events": return m.events();
-            case "event": return m.event(p);
-            case "eventValue": return m.eventValue(p);
-            default: throw new AssertionError(name);
-        }
-    }
-
-    private static String answer(java.util.function.IntSupplier call) {
-        try {
-            return Integer.toString(call.getAsInt());
-        } catch (RuntimeException e) {
-            return "throws." + e.getClass().getSimpleName();
-        }
     }
 }
